@@ -289,7 +289,6 @@ public final class StorageCharge {
 
     /** How many lines the text has, all told to the draft, or what read answers to a wrong one. */
     private int readLines() {
-        text.rewind();
         for (int lines = 0; lines < TEXT_LINES; lines++) {
             if (text.isRead()) {
                 return lines;
@@ -408,10 +407,6 @@ public final class StorageCharge {
 
         void clear() {
             length = 0;
-            place = 0;
-        }
-
-        void rewind() {
             place = 0;
         }
 
