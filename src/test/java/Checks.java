@@ -1,14 +1,20 @@
 /** What the project's tests share: they compare answers, and end with exit code 1 if one is wrong. */
 final class Checks {
     private static int wrong = 0;
+    private static String sentence = "";
 
     private Checks() {
+    }
+
+    /** The document's sentence that the next checks ask for; a wrong answer is printed with it. */
+    static void sentence(String words) {
+        sentence = "'" + words + "': ";
     }
 
     static void due(String call, long got, long want) {
         if (got != want) {
             wrong++;
-            System.out.println(call + " answered " + got + ", due is " + want);
+            System.out.println(sentence + call + " answered " + got + ", due is " + want);
         }
     }
 
@@ -19,13 +25,25 @@ final class Checks {
     static void due(String call, String got, String want) {
         if (!got.equals(want)) {
             wrong++;
-            System.out.println(call + " answered '" + got + "', due is '" + want + "'");
+            System.out.println(sentence + call + " answered '" + got + "', due is '" + want + "'");
         }
     }
 
     /** The call throws just this class, not one below or above it. */
     static void refused(String call, Class<? extends RuntimeException> want, Runnable body) {
         due(call, thrownBy(body), want.getSimpleName());
+    }
+
+    /** The call throws just this class, and nothing that can be asked for is another one then. */
+    static void refusedWithoutTrace(String call, StorageCharge x,
+            Class<? extends RuntimeException> want, Runnable body) {
+        String before = stateOf(x);
+        refused(call, want, body);
+        due("state behind " + call, stateOf(x), before);
+    }
+
+    static void answered(String call, Runnable body) {
+        due(call + " throws", thrownBy(body), "nothing");
     }
 
     static String thrownBy(Runnable body) {

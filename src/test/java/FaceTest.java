@@ -7,10 +7,24 @@ import java.util.TreeSet;
 /** The public face, and that no other member can be seen from outside. */
 public final class FaceTest {
     private static final String[] FACE = {
-        "int sign(int)", "int read()", "int unit(int,int,int)", "boolean change(int,int,int)",
-        "int gone(int,int)", "int move(int,int,int,int)", "int sum(int,int)", "int days(int,int)",
-        "int average(int,int)", "int bill(int,int)", "int correct(int,int)", "int line(int,int,int)",
-        "int billed(int)", "int compare(int,int,int)", "int print(int)", "int at(int)",
+        "int sign(int) throws IllegalArgumentException, UnsupportedOperationException",
+        "int read()",
+        "int unit(int,int,int) throws IllegalArgumentException, UnsupportedOperationException",
+        "boolean change(int,int,int) throws NoSuchElementException, IllegalArgumentException, "
+            + "IllegalStateException, UnsupportedOperationException",
+        "int gone(int,int) throws NoSuchElementException, IllegalArgumentException, "
+            + "IllegalStateException",
+        "int move(int,int,int,int) throws IllegalArgumentException, UnsupportedOperationException",
+        "int sum(int,int) throws IllegalArgumentException",
+        "int days(int,int) throws IllegalArgumentException",
+        "int average(int,int) throws IllegalArgumentException, ArithmeticException",
+        "int bill(int,int) throws IllegalArgumentException, IllegalStateException",
+        "int correct(int,int) throws IllegalArgumentException, IllegalStateException",
+        "int line(int,int,int) throws NoSuchElementException, IllegalArgumentException",
+        "int billed(int) throws IllegalArgumentException",
+        "int compare(int,int,int) throws IllegalArgumentException",
+        "int print(int) throws IllegalArgumentException",
+        "int at(int) throws ArrayIndexOutOfBoundsException",
         "int count(int)"};
 
     public static void main(String[] args) {
@@ -45,6 +59,10 @@ public final class FaceTest {
         for (Class<?> c : m.getParameterTypes()) {
             all.append(all.length() == 0 ? "" : ",").append(c.getName());
         }
-        return m.getReturnType().getName() + " " + m.getName() + "(" + all + ")";
+        StringBuilder thrown = new StringBuilder();
+        for (Class<?> c : m.getExceptionTypes()) {
+            thrown.append(thrown.length() == 0 ? " throws " : ", ").append(c.getSimpleName());
+        }
+        return m.getReturnType().getName() + " " + m.getName() + "(" + all + ")" + thrown;
     }
 }
