@@ -27,6 +27,7 @@ public final class BillEdgeTest {
         countOfPaper();
         countOfOwners();
         call512();
+        callsBehindThe512th();
         Checks.end();
     }
 
@@ -329,10 +330,10 @@ public final class BillEdgeTest {
 
     private static void noSuchSign() {
         Checks.sentence("ArrayIndexOutOfBoundsException (the machine's own): there is none.");
-        StorageCharge x = new StorageCharge();
         Class<ArrayIndexOutOfBoundsException> none = ArrayIndexOutOfBoundsException.class;
         int[] all = {-1, 0, 1, Integer.MIN_VALUE, Integer.MAX_VALUE};
         for (int i : all) {
+            StorageCharge x = new StorageCharge();
             Checks.refusedWithoutTrace("never printed, at " + i, x, none, () -> x.at(i));
         }
         StorageCharge y = new StorageCharge();
@@ -450,5 +451,32 @@ public final class BillEdgeTest {
         Checks.due("call 510", x.print(4), 10 * 6 + 90 * 7 + 8);
         Checks.due("call 511", x.at(697), 10);
         Checks.due("call 512", x.line(3, 101, 0), 101);
+    }
+
+    /** Their answers are free, but rule 7 of LANGUAGE.md lets no call throw by itself. */
+    private static void callsBehindThe512th() {
+        Checks.sentence("what later calls answer is free");
+        StorageCharge x = Checks.charged("S 0 0 10000\nH 0 0 10000\n");
+        for (int i = 0; i < 24; i++) {
+            x.unit(0, 0, 0);
+        }
+        for (int owner = 0; owner < 8; owner++) {
+            for (int month = 0; month < 120; month++) {
+                int o = owner;
+                int m = month;
+                Checks.answered("bill", () -> x.bill(o, m));
+            }
+        }
+        for (int round = 0; round < 10; round++) {
+            Checks.readOf(x, round % 2 == 0 ? "" : "S 0 0 10000\n");
+            for (int month = 0; month < 120; month++) {
+                int m = month;
+                Checks.answered("correct", () -> x.correct(0, m));
+            }
+        }
+        Checks.answered("print", () -> x.print(0));
+        Checks.answered("billed", () -> x.billed(0));
+        Checks.answered("at", () -> x.at(0));
+        Checks.answered("line", () -> x.line(0, 0, 1));
     }
 }

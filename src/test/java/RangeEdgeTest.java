@@ -236,7 +236,7 @@ public final class RangeEdgeTest {
     }
 
     private static void lineAsksInItsOwnOrder() {
-        Checks.sentence("IllegalArgumentException: owner or what (owner, line, what are asked in this order)");
+        Checks.sentence("(owner, line, what are asked in this order)");
         StorageCharge x = prepared();
         Class<IllegalArgumentException> wrong = IllegalArgumentException.class;
         Class<NoSuchElementException> none = NoSuchElementException.class;

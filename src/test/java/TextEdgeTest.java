@@ -375,7 +375,7 @@ public final class TextEdgeTest {
     }
 
     private static void placeOfTheFirstWrongLine() {
-        Checks.sentence("-1 less the place (0, 1, ..) of the first sign of the first line that is not as said");
+        Checks.sentence("the place (0, 1, ..) of the first sign of the first line that is not as said");
         wrongAt("?", 0);
         wrongAt("M 0 1?\n", 0);
         wrongAt("M 0 1\n?", 6);
