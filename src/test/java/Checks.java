@@ -46,13 +46,19 @@ final class Checks {
         due(call + " throws", thrownBy(body), "nothing");
     }
 
+    /** What the machine throws itself is told apart: the class may throw by its own statements alone. */
     static String thrownBy(Runnable body) {
         try {
             body.run();
         } catch (RuntimeException e) {
-            return e.getClass().getSimpleName();
+            String name = e.getClass().getSimpleName();
+            return isOfTheMachine(e.getMessage()) ? "the machine's " + name : name;
         }
         return "nothing";
+    }
+
+    private static boolean isOfTheMachine(String message) {
+        return message != null && (message.equals("/ by zero") || message.startsWith("Index "));
     }
 
     /** Tells the signs of a text, without reading them. */

@@ -282,6 +282,9 @@ public final class SumEdgeTest {
         Checks.refused("the month before", ArithmeticException.class, () -> x.average(0, 1));
         Checks.due("the month", x.average(0, 2), 1);
         Checks.refused("the month behind", ArithmeticException.class, () -> x.average(0, 3));
+        x.unit(0, 0, 149);
+        Checks.due("one unit-day is enough", x.average(0, 4), 1);
+        Checks.due("days", x.days(0, 4), 1);
         Checks.due("days without cents", x.average(1, 119), 0);
     }
 

@@ -358,6 +358,11 @@ public final class TextEdgeTest {
         Checks.due("another minimum", x.sum(2, 0), 3);
         Checks.due("lines", x.count(1), 1);
         Checks.due("owners", x.count(6), 4);
+        for (int cents = 8; cents <= 9; cents++) {
+            Checks.due("read", Checks.readOf(x, "S 0 0 " + cents + "\n"), 1);
+            Checks.due("a discount told long before is none", x.sum(0, 0), cents);
+            Checks.due("nor is a minimum", x.sum(2, 0), 0);
+        }
     }
 
     private static void elseNothingChanges() {
